@@ -531,8 +531,9 @@ public final class RoomFills {
             for (int before = 0; before < BEFORES; before++) {
                 values[cell + before] = before == FILLER_BEFORE ? NO_WAY : withFiller;
             }
+            int fitting = left & fittingSet[at];
             for (int item = 0; item < items.count; item++) {
-                if (hasItem(left & fittingSet[at], item)) {
+                if (hasItem(fitting, item)) {
                     offerItem(cell, item, behindItem(at, left, item));
                 }
             }
@@ -540,8 +541,14 @@ public final class RoomFills {
 
         private long bestWithFiller(int at, int left) {
             long best = NO_WAY;
-            for (int width = fillers.least; width <= longestFiller[at]; width++) {
-                best = Math.max(best, valueOf(at + width, left, FILLER_BEFORE));
+            int longest = longestFiller[at];
+            // The dearest loop of a run: it goes from step to step without counting cells anew.
+            int index = cell(at + fillers.least, left) + FILLER_BEFORE;
+            for (int width = fillers.least; width <= longest; width++) {
+                if (values[index] > best) {
+                    best = values[index];
+                }
+                index += SETS * BEFORES;
             }
             return best;
         }
@@ -550,10 +557,11 @@ public final class RoomFills {
             if (behind == NO_WAY) {
                 return;
             }
+            int barred = items.barredSet[item];
             for (int before = 0; before < BEFORES; before++) {
-                if (!items.isBarred(before, item)) {
-                    long value = behind + items.nearWorthOf(before, item);
-                    values[cell + before] = Math.max(values[cell + before], value);
+                long value = behind + items.nearWorth[item * BEFORES + before];
+                if (value > values[cell + before] && !hasItem(barred, before)) {
+                    values[cell + before] = value;
                 }
             }
         }

@@ -652,10 +652,19 @@ public final class AllPlansTest {
     }
 
     private static void oneRoom(int seed, Size size) {
+        oneRoom(seed, size, size.steps);
+    }
+
+    /** A wide door leaves so many steps, some of them at the begin, the others at the end. */
+    private static void oneRoom(int seed, Size size, int open) {
         Random random = new Random(seed);
         String run = "seed " + seed + ", " + size.steps + " steps";
         RoomFills x = new RoomFills(size.steps);
         Model m = new Model(size.steps);
+        if (open < size.steps) {
+            int from = between(random, 0, open);
+            both(x, m, run, 0, from, from + size.steps - open);
+        }
         for (int k = 0; k < 24; k++) {
             tell(x, m, random, size, run);
             if (random.nextInt(4) == 0) {
@@ -693,6 +702,7 @@ public final class AllPlansTest {
         for (int k = 0; k < 300; k++) {
             oneRoom(seed++, new Size(20 + k % 21, 7, 20, 6, 4, 3));
             oneRoom(seed++, new Size(36 + k % 6, 6, 9, 4, 3, 2));
+            oneRoom(seed++, new Size(30 + k % 11, 1, 4, 6, 1, 4), 5 + k % 7);
         }
         System.out.println(wrong == 0 ? "all " + calls + " answers are as due" : wrong + " answers are not as due");
         if (wrong != 0) {

@@ -435,6 +435,13 @@ public final class PromisesTest {
         x.run();
         due("15 none", () -> x.top(NONE, 0), 0);
         due("15 none of none", () -> x.top(0, 0), INDEX);
+        RoomFills y = room(40, 1, 1);
+        for (int step = 1; step < 40; step += 2) {
+            y.door(step, step + 1);
+        }
+        due("15 as many pieces as can be", () -> y.run(), 20);
+        due("15 as many tops as can be", () -> y.top(NONE, 0), 20);
+        due("15 the last of them", () -> y.top(19, 0) + "+" + y.top(19, 1), "38+1");
     }
 
     private static void place() {
