@@ -31,7 +31,7 @@ public final class RoomFills {
     private final Planner planner;
     private final Row placed;
     private final int[] toldSets;
-    // No plan since something was told: then none counts as told either.
+    // 0 also says that there is no plan, or none since something was told.
     private int toldCount;
 
     public RoomFills(int steps) {
@@ -104,7 +104,7 @@ public final class RoomFills {
 
     public int run() {
         toldCount = 0;
-        planner.prepare();
+        planner.table.fill();
         return tellPlan(0);
     }
 
@@ -188,9 +188,10 @@ public final class RoomFills {
     }
 
     private int tellPlan(int unlike) {
-        if (!planner.find(toldSets, toldCount, unlike)) {
+        if (!planner.chooseSets(toldSets, toldCount, unlike)) {
             return NONE;
         }
+        planner.layOut();
         // The callers leave room; the test keeps the index safe by itself.
         if (toldCount < MOST_TOLD) {
             toldSets[toldCount] = planner.latest.itemSet;
@@ -365,7 +366,7 @@ public final class RoomFills {
         }
 
         boolean isBarred(int before, int item) {
-            return hasItem(barredSet[before], item);
+            return (barredSet[before] & 1 << item) != 0;
         }
 
         boolean isNeedMet(int item, int begin, Wall wall) {
@@ -534,7 +535,7 @@ public final class RoomFills {
             int fitting = left & fittingSet[at];
             for (int item = 0; item < items.count; item++) {
                 if (hasItem(fitting, item)) {
-                    offerItem(cell, item, behindItem(at, left, item));
+                    offerItem(cell, item, valueOf(at + items.width[item], left & ~(1 << item), item));
                 }
             }
         }
@@ -566,16 +567,12 @@ public final class RoomFills {
             }
         }
 
-        private long behindItem(int at, int left, int item) {
-            return valueOf(at + items.width[item], left & ~(1 << item), item);
-        }
-
         /** Whether a best way from here on begins with that item. */
         boolean isItemBest(int at, int left, int before, int item) {
             if (!hasItem(left & fittingSet[at], item) || items.isBarred(before, item)) {
                 return false;
             }
-            long behind = behindItem(at, left, item);
+            long behind = valueOf(at + items.width[item], left & ~(1 << item), item);
             return behind != NO_WAY && behind + items.nearWorthOf(before, item) == valueOf(at, left, before);
         }
 
@@ -586,7 +583,7 @@ public final class RoomFills {
         }
 
         long valueOf(int at, int left, int before) {
-            return values[cell(at, left) + before];
+            return values[(at * SETS + left) * BEFORES + before];
         }
 
         private static int cell(int at, int left) {
@@ -616,23 +613,15 @@ public final class RoomFills {
             tiedSets = new int[SETS];
         }
 
-        void prepare() {
-            table.fill();
-        }
-
-        /** Lays out the best plan that is unlike enough; leaves the latest one if there is none. */
-        boolean find(int[] toldSets, int toldCount, int unlike) {
+        /** Whether there is a plan that is unlike enough; the sets of the best ones are tied then. */
+        boolean chooseSets(int[] toldSets, int toldCount, int unlike) {
             tiedCount = 0;
             for (int set = 0; set < 1 << items.count; set++) {
                 if ((items.mustSet & ~set) == 0 && isUnlike(set, toldSets, toldCount, unlike)) {
                     offerSet(set);
                 }
             }
-            if (tiedCount == 0) {
-                return false;
-            }
-            layOut();
-            return true;
+            return tiedCount > 0;
         }
 
         private static boolean isUnlike(int set, int[] toldSets, int toldCount, int unlike) {
@@ -663,7 +652,8 @@ public final class RoomFills {
             tiedCount++;
         }
 
-        private void layOut() {
+        /** The first of the best plans, in the order of pieces, becomes the latest one. */
+        void layOut() {
             latest.clear(bestWorth, bestCents);
             at = 0;
             before = NOTHING_BEFORE;
