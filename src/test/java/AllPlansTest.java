@@ -37,6 +37,7 @@ public final class AllPlansTest {
         int most = 0;
         final List<List<Piece>> told = new ArrayList<>();
         List<List<Piece>> allPlans = null;
+        int asked = 0;
 
         Model(int steps) {
             n = steps < 1 ? 1 : steps > 40 ? 40 : steps;
@@ -499,6 +500,9 @@ public final class AllPlansTest {
         "top", "place", "check", "row",
     };
 
+    // What an object answers after so many calls is free.
+    private static final int MOST_CALLS = 512;
+
     private static int wrong = 0;
     private static long calls = 0;
 
@@ -506,6 +510,10 @@ public final class AllPlansTest {
         long[] c = {numbers[0], 0, 0, 0};
         System.arraycopy(numbers, 0, c, 0, numbers.length);
         String want = asked(m, c);
+        m.asked++;
+        if (m.asked > MOST_CALLS) {
+            return want;
+        }
         String got = answered(x, c);
         calls++;
         if (!got.equals(want)) {
@@ -670,7 +678,7 @@ public final class AllPlansTest {
             if (random.nextInt(4) == 0) {
                 tellOdd(x, m, random, run);
             }
-            if (k % 6 == 5) {
+            if (k % 12 == 11) {
                 both(x, m, run, 8);
                 askAll(x, m, run);
                 for (int v = 0; v < 3; v++) {
@@ -695,11 +703,11 @@ public final class AllPlansTest {
 
     public static void main(String[] args) {
         int seed = 1;
-        for (int k = 0; k < 900; k++) {
+        for (int k = 0; k < 1200; k++) {
             oneRoom(seed++, new Size(1 + k % 11, 1, 4, 6, 1, 4));
             oneRoom(seed++, new Size(8 + k % 6, 2, 5, 6, 1, 2));
         }
-        for (int k = 0; k < 300; k++) {
+        for (int k = 0; k < 400; k++) {
             oneRoom(seed++, new Size(20 + k % 21, 7, 20, 6, 4, 3));
             oneRoom(seed++, new Size(36 + k % 6, 6, 9, 4, 3, 2));
             oneRoom(seed++, new Size(30 + k % 11, 1, 4, 6, 1, 4), 5 + k % 7);
